@@ -165,7 +165,7 @@ public final class ToolsAndTeethTest {
         Check.due("upcut at 0", x.upcut(0), 0);
         Check.due("height at 0", x.height(0, 0), 0);
         Teethrow y = Shops.hardFile();
-        // One tooth fewer is tried in the last stroke: 9 teeth of 4, then the gullets' 81 are full at the 21st bite.
+        // The gullets hold 81 and are full at the 21st bite of 4, so the third stroke stops behind the third tooth.
         y.strokes(0, 20, 3);
         y.brush(0);
         y.strokes(0, 20, 3);
