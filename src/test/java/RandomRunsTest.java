@@ -1,35 +1,80 @@
-import java.util.List;
+import java.lang.reflect.InvocationTargetException;
+import java.lang.reflect.Method;
+import java.util.Arrays;
+import java.util.HashMap;
 import java.util.Map;
+import java.util.TreeMap;
 
-/** Runs of up to 510 calls with fitting and unfitting arguments: only documented exceptions, and none changes anything. */
+/** Runs of 512 calls with fitting and unfitting arguments, each on the class and on the plain model of the document. */
 public final class RandomRunsTest {
-    private static final Map<Integer, List<String>> ALLOWED = Map.of(
-            0, List.of("IllegalArgumentException", "IllegalStateException"),
-            1, List.of("IndexOutOfBoundsException", "IllegalArgumentException", "UnsupportedOperationException"),
-            2, List.of("IndexOutOfBoundsException", "UnsupportedOperationException"),
-            3, List.of("IndexOutOfBoundsException"),
-            4, List.of("IndexOutOfBoundsException", "NoSuchElementException"),
-            5, List.of("IndexOutOfBoundsException", "IllegalArgumentException"),
-            6, List.of("IllegalArgumentException"),
-            7, List.of("ArithmeticException"),
-            8, List.of());
+    private static final int RUNS = 2000;
+    private static final int CALLS_OF_A_RUN = 512;
     private static final int[] ODD = {-1, Integer.MIN_VALUE, Integer.MAX_VALUE, 0, 8, 60, 100};
-    private static final char[] SIGNS = {'f', 'h', 's', 'b', 'm', 'o', 'w', 'x'};
+    private static final String SIGNS = "fhsbmowcxF";
 
+    /** How often a call stands among a hundred or so, its name, and what its arguments are. */
+    private static final String[] CALLS = {
+        "5 blank fhs 50..200 20..99 40..140", "9 cut tool bsm 0..3", "3 upcut tool", "1 teeth tool",
+        "2 place tool 0..59", "2 height tool 0..59", "2 wear tool 0..59", "1 sings tool", "5 set tool 0..9",
+        "1 kerf tool", "1 gullets tool", "1 thickness tool", "1 state tool", "9 harden tool 600..1200 owb",
+        "1 hardness tool", "1 bend tool", "5 temper tool 100..400", "5 straighten tool 1..6",
+        "2 seed 1..2147483646", "9 strokes tool 1..70 1..40", "1 chips tool", "2 brush tool", "1 work tool",
+        "4 soften tool", "4 grind tool", "1 recuts tool", "2 recutsLeft tool bsm", "3 order fhs bsm 1..8",
+        "2 isGood tool 0..5", "9 send tool 0..5", "1 sent 0..5", "1 wornShare", "1 meanHardness", "0 checksum",
+        "1 isSound"};
+
+    private static final Map<String, Integer> ANSWERS = new TreeMap<>();
     private static long random = 12345;
-    private static int kind;
+    private static int tools;
+    /** The one letter of each kind that a narrow run takes, so that tools often fit the orders; -1 in a wide run. */
+    private static int letter;
 
     private RandomRunsTest() {
     }
 
-    public static void main(String[] args) {
-        for (int run = 0; run < 400; run++) {
-            Teethrow x = new Teethrow();
-            for (int call = 0; call < 170; call++) {
-                oneCall(x, run);
-            }
+    public static void main(String[] args) throws Exception {
+        Map<String, Method> due = methods(Plain.class);
+        Map<String, Method> told = methods(Teethrow.class);
+        for (int run = 0; run < RUNS; run++) {
+            tools = 1 + run % 8;
+            letter = run % 2 == 0 ? -1 : run % 3;
+            oneRun(run, told, due);
         }
+        eachAnswerCameUp(told);
         Check.end();
+    }
+
+    private static Map<String, Method> methods(Class<?> of) {
+        Map<String, Method> all = new HashMap<>();
+        for (Method method : of.getDeclaredMethods()) {
+            method.setAccessible(true);
+            all.put(method.getName(), method);
+        }
+        return all;
+    }
+
+    private static void oneRun(int run, Map<String, Method> told, Map<String, Method> due) throws Exception {
+        Teethrow x = new Teethrow();
+        Plain plain = new Plain();
+        // Each call is followed by a checksum, which counts as one.
+        for (int call = 0; call < CALLS_OF_A_RUN / 2; call++) {
+            String[] words = someCall();
+            Object[] arguments = arguments(words);
+            String want = outcome(due.get(words[1]), plain, arguments);
+            String what = "run " + run + ", call " + call + ": " + words[1] + Arrays.toString(arguments);
+            Check.due(what, outcome(told.get(words[1]), x, arguments), want);
+            Check.due("checksum behind " + what, x.checksum(), plain.checksum());
+            String kind = words[1] + (want.startsWith("throws") ? " " + want : "");
+            ANSWERS.merge(kind, 1, Integer::sum);
+        }
+    }
+
+    private static String outcome(Method method, Object on, Object[] arguments) throws Exception {
+        try {
+            return String.valueOf(method.invoke(on, arguments));
+        } catch (InvocationTargetException e) {
+            return "throws " + e.getCause().getClass().getSimpleName();
+        }
     }
 
     private static int below(int bound) {
@@ -37,102 +82,67 @@ public final class RandomRunsTest {
         return (int) ((random >>> 33) % bound);
     }
 
-    /** A number from least to most, at times one beside. */
+    private static String[] someCall() {
+        while (true) {
+            String[] words = CALLS[below(CALLS.length)].split(" ");
+            if (below(9) < Integer.parseInt(words[0])) {
+                return words;
+            }
+        }
+    }
+
+    private static Object[] arguments(String[] words) {
+        Object[] all = new Object[words.length - 2];
+        for (int i = 0; i < all.length; i++) {
+            String kind = words[i + 2];
+            int dots = kind.indexOf("..");
+            if (kind.equals("tool")) {
+                all[i] = below(40) == 0 ? number(0, 7) : below(tools);
+            } else if (dots > 0) {
+                all[i] = number(Integer.parseInt(kind.substring(0, dots)), Integer.parseInt(kind.substring(dots + 2)));
+            } else {
+                all[i] = sign(kind);
+            }
+        }
+        return all;
+    }
+
+    private static char sign(String kind) {
+        if (below(30) == 0) {
+            return SIGNS.charAt(below(SIGNS.length()));
+        }
+        return kind.charAt(letter < 0 ? below(kind.length()) : letter);
+    }
+
+    /** A number from least to most, often an end, at times one beside. */
     private static int number(int least, int most) {
-        int sort = below(24);
-        if (sort == 0) {
-            return ODD[below(ODD.length)];
-        }
-        return sort == 1 ? least - 1 : sort == 2 ? most + 1 : least + below(most - least + 1);
-    }
-
-    private static char sign(String good) {
-        return below(16) == 0 ? SIGNS[below(SIGNS.length)] : good.charAt(below(good.length()));
-    }
-
-    private static int tool() {
-        return below(16) == 0 ? number(0, 7) : below(3);
-    }
-
-    private static void oneCall(Teethrow x, int run) {
-        long before = x.checksum();
-        int what = below(38);
-        String answer = Check.outcome(() -> what < 20 ? change(x, what) : ask(x, what));
-        if (answer.startsWith("throws ")) {
-            String name = answer.substring(answer.lastIndexOf('.') + 1);
-            Check.due("run " + run + ", call " + what + " may throw " + name, ALLOWED.get(kind).contains(name), true);
-            Check.due("run " + run + ", call " + what + " changes nothing", x.checksum(), before);
-        }
-    }
-
-    private static Object change(Teethrow x, int what) {
-        switch (what) {
-            case 0: case 1:
-                kind = 0;
-                return x.blank(sign("fhs"), number(50, 200), number(20, 99), number(40, 140));
-            case 2: case 3:
-                kind = 1;
-                return x.cut(tool(), sign("bsm"), number(0, 3));
-            case 4:
-                kind = 2;
-                return x.upcut(tool());
-            case 5: case 6:
-                kind = 1;
-                return x.set(tool(), number(0, 9));
-            case 7: case 8:
-                kind = 1;
-                return x.harden(tool(), number(600, 1200), sign("owb"));
-            case 9:
-                kind = 1;
-                return x.temper(tool(), number(100, 400));
-            case 10:
-                kind = 1;
-                return x.straighten(tool(), number(1, 6));
-            case 11:
-                kind = 6;
-                return x.seed(number(1, 1000));
-            case 12: case 13:
-                kind = 1;
-                return x.strokes(tool(), number(1, 70), number(1, 40));
-            case 14:
-                kind = 3;
-                return x.brush(tool());
-            case 15:
-                kind = 2;
-                return x.soften(tool());
-            case 16:
-                kind = 2;
-                return x.grind(tool());
-            case 17:
-                kind = 0;
-                return x.order(sign("fhs"), sign("bsm"), number(1, 8));
+        switch (below(60)) {
+            case 0:
+                return ODD[below(ODD.length)];
+            case 1:
+                return least - 1;
+            case 2:
+                return most + 1;
+            case 3: case 4: case 5:
+                return least;
+            case 6: case 7: case 8:
+                return most;
             default:
-                kind = 2;
-                return x.send(tool(), number(0, 5));
+                return least + below(most - least + 1);
         }
     }
 
-    private static Object ask(Teethrow x, int what) {
-        kind = 3;
-        switch (what) {
-            case 20: return x.teeth(tool());
-            case 21: kind = 4; return x.place(tool(), number(0, 59));
-            case 22: kind = 4; return x.height(tool(), number(0, 59));
-            case 23: kind = 4; return x.wear(tool(), number(0, 59));
-            case 24: return x.sings(tool());
-            case 25: return x.kerf(tool());
-            case 26: return x.gullets(tool());
-            case 27: return x.thickness(tool());
-            case 28: return x.state(tool());
-            case 29: return x.hardness(tool());
-            case 30: return x.bend(tool());
-            case 31: return x.chips(tool());
-            case 32: return x.work(tool());
-            case 33: return x.recuts(tool());
-            case 34: kind = 5; return x.recutsLeft(tool(), sign("bsm"));
-            case 35: return x.isGood(tool(), number(0, 5)) ? x.sent(number(0, 5)) : 0;
-            case 36: kind = 7; return below(2) == 0 ? x.wornShare() : x.meanHardness();
-            default: kind = 8; return x.isSound();
+    /** A run that never sends a tool, say, would tell nothing of it. */
+    private static void eachAnswerCameUp(Map<String, Method> told) {
+        for (String call : CALLS) {
+            Method method = told.get(call.split(" ")[1]);
+            if (!method.getName().equals("checksum")) {
+                Check.due("often: " + method.getName(), ANSWERS.getOrDefault(method.getName(), 0) >= 40, true);
+            }
+            for (Class<?> exception : method.getExceptionTypes()) {
+                String kind = method.getName() + " throws " + exception.getSimpleName();
+                Check.due("often: " + kind, ANSWERS.getOrDefault(kind, 0) >= 10, true);
+            }
         }
     }
 }
