@@ -262,10 +262,12 @@ public final class Teethrow {
             left = it.groundThickness();
             first = 1;
         }
-        if (left < LEAST_THICKNESS) {
+        int each = depthOf(name, it.shape) + GROUND_BESIDE_DEPTH;
+        // A recut never takes less than 5 off, but a divisor is looked at first.
+        if (left < LEAST_THICKNESS || each <= 0) {
             return 0;
         }
-        return first + (left - LEAST_THICKNESS) / (depthOf(name, it.shape) + GROUND_BESIDE_DEPTH);
+        return first + (left - LEAST_THICKNESS) / each;
     }
 
     // ---- orders

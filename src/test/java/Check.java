@@ -68,18 +68,27 @@ final class Check {
         StringBuilder text = new StringBuilder();
         text.append(x.checksum()).append(' ').append(x.isSound());
         text.append(' ').append(outcome(x::wornShare)).append(' ').append(outcome(x::meanHardness));
+        for (int i = 0; i < 6; i++) {
+            viewOrder(x, i, text);
+        }
         for (int i = 0; i < 8; i++) {
             viewTool(x, i, text);
         }
         for (int i = 0; i < 6; i++) {
             int order = i;
-            text.append("\norder ").append(i).append(": ").append(outcome(() -> x.sent(order)));
-            text.append(' ').append(outcome(() -> x.isGood(0, order)));
-            text.append(' ').append(outcome(() -> x.send(0, order)));
+            text.append("\nsend 0 for ").append(i).append(": ").append(outcome(() -> x.send(0, order)));
         }
         text.append("\nnext ").append(outcome(() -> x.order('f', 'b', 1)));
         text.append(' ').append(outcome(() -> x.blank('f', 50, 50, 50)));
         return text.append(" z ").append(x.seed(1)).toString();
+    }
+
+    private static void viewOrder(Teethrow x, int order, StringBuilder text) {
+        text.append("\norder ").append(order).append(": ").append(outcome(() -> x.sent(order)));
+        for (int i = 0; i < 8; i++) {
+            int tool = i;
+            text.append(' ').append(outcome(() -> x.isGood(tool, order)));
+        }
     }
 
     private static void viewTool(Teethrow x, int tool, StringBuilder text) {
@@ -99,7 +108,7 @@ final class Check {
             text.append(' ').append(x.place(tool, i)).append('/').append(x.height(tool, i));
             text.append('/').append(x.wear(tool, i));
         }
-        text.append(" left ").append(x.recutsLeft(tool, 'm'));
+        text.append(" left ").append(x.recutsLeft(tool, 'b')).append(' ').append(x.recutsLeft(tool, 'm'));
         for (int i = 0; i < 3; i++) {
             text.append(' ').append(outcome(() -> x.straighten(tool, 1)));
         }

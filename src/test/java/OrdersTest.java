@@ -1,5 +1,3 @@
-import java.lang.reflect.Array;
-import java.lang.reflect.Field;
 import java.util.function.Consumer;
 import java.util.function.Supplier;
 
@@ -8,7 +6,7 @@ public final class OrdersTest {
     private OrdersTest() {
     }
 
-    public static void main(String[] args) throws Exception {
+    public static void main(String[] args) {
         order();
         goodAndNot();
         upcutAside();
@@ -20,7 +18,6 @@ public final class OrdersTest {
         meanHardness();
         checksum();
         isSound();
-        isSoundSeesWhatIsSpoilt();
         Check.end();
     }
 
@@ -355,38 +352,5 @@ public final class OrdersTest {
         Teethrow x = Shops.goodFile();
         x.send(0, 0);
         return x;
-    }
-
-    /** Spoils the state from outside, for no call does: isSound is to look at each part of it. */
-    private static void isSoundSeesWhatIsSpoilt() throws Exception {
-        spoil("places", 0, 1);
-        spoil("places", 5, 33);
-        spoil("heights", 4, 10);
-        Teethrow x = Shops.hardFile();
-        part(tool(x), "chips").setInt(tool(x), 81 + 9);
-        Check.due("one more bite", x.isSound(), true);
-        part(tool(x), "chips").setInt(tool(x), 81 + 10);
-        Check.due("more than one more bite", x.isSound(), false);
-        Teethrow y = Shops.hardFile();
-        Object row = part(tool(y), "row").get(tool(y));
-        part(row, "count").setInt(row, 8);
-        Check.due("a tooth is lacking", y.isSound(), false);
-    }
-
-    private static void spoil(String name, int tooth, int number) throws Exception {
-        Teethrow x = Shops.hardFile();
-        Object row = part(tool(x), "row").get(tool(x));
-        ((int[]) part(row, name).get(row))[tooth] = number;
-        Check.due(name + " spoilt", x.isSound(), false);
-    }
-
-    private static Object tool(Teethrow x) throws Exception {
-        return Array.get(part(x, "tools").get(x), 0);
-    }
-
-    private static Field part(Object of, String name) throws Exception {
-        Field field = of.getClass().getDeclaredField(name);
-        field.setAccessible(true);
-        return field;
     }
 }

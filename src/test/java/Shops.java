@@ -65,4 +65,30 @@ final class Shops {
         x.order('f', 's', 1);
         return x;
     }
+
+    /** So many files, numbered from 0, each of the bend 1 and good for an order of flat ones, second cut. */
+    static Teethrow goodFiles(int many) {
+        Teethrow x = new Teethrow();
+        for (int i = 0; i < many; i++) {
+            x.blank('f', 50, 90, 120);
+            x.cut(i, 's', 1);
+            x.seed(1);
+            x.harden(i, 850, 'o');
+        }
+        return x;
+    }
+
+    static Teethrow warmSaw() {
+        Teethrow x = hardSaw();
+        x.temper(0, 100);
+        return x;
+    }
+
+    /** The longest row that there is, 60 teeth, of the hardness 58. */
+    static Teethrow longest(char shape) {
+        Teethrow x = blank(shape, 200, 40, 100);
+        x.cut(0, 'm', 0);
+        x.harden(0, 850, 'w');
+        return x;
+    }
 }

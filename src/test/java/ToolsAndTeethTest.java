@@ -283,7 +283,7 @@ public final class ToolsAndTeethTest {
         Check.refusedNumbers("set", Shops::hardSaw, (x, tool) -> x.set(tool, 3));
         Check.refused("set of none, and wrong", IndexOutOfBoundsException.class, Shops::hardSaw, x -> x.set(1, 10));
         for (int by : new int[] {-1, 10, Integer.MIN_VALUE, Integer.MAX_VALUE}) {
-            Check.refused("set by " + by, IllegalArgumentException.class, ToolsAndTeethTest::warmSaw, x -> x.set(0, by));
+            Check.refused("set by " + by, IllegalArgumentException.class, Shops::warmSaw, x -> x.set(0, by));
             Check.refused("set of a file by " + by, IllegalArgumentException.class, Shops::file, x -> x.set(0, by));
         }
         Check.refused("set of a file", UnsupportedOperationException.class, Shops::warmFile, x -> x.set(0, 3));
@@ -293,12 +293,6 @@ public final class ToolsAndTeethTest {
                 x -> x.set(0, 3));
         Check.refused("set of a cracked one", UnsupportedOperationException.class, () -> Shops.crackedTool('s'),
                 x -> x.set(0, 3));
-    }
-
-    private static Teethrow warmSaw() {
-        Teethrow x = Shops.hardSaw();
-        x.temper(0, 100);
-        return x;
     }
 
     private static void kerfGulletsThicknessState() {
