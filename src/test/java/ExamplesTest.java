@@ -1,4 +1,4 @@
-/** The four examples of the document. */
+/** The four examples of the document, and the one of README.md. */
 public final class ExamplesTest {
     private ExamplesTest() {
     }
@@ -8,6 +8,7 @@ public final class ExamplesTest {
         fileTriedOnce();
         sawAndItsRecuts();
         fileForAnOrder();
+        exampleOfTheReadme();
         Check.end();
     }
 
@@ -57,5 +58,25 @@ public final class ExamplesTest {
         Check.due("isGood", x.isGood(0, 0), true);
         Check.due("send", x.send(0, 0), 1);
         Check.due("sent", x.sent(0), 1);
+    }
+
+    private static void exampleOfTheReadme() {
+        Teethrow shop = new Teethrow();
+        Check.due("blank", shop.blank('f', 50, 90, 120), 0);
+        Check.due("cut", shop.cut(0, 's', 1), 11);
+        Check.due("harden", shop.harden(0, 850, 'o'), 64);
+        Check.due("order", shop.order('f', 's', 1), 0);
+        Check.due("isGood", shop.isGood(0, 0), true);
+        Check.due("send", shop.send(0, 0), 1);
+        Check.due("blank saw", shop.blank('s', 100, 50, 100), 1);
+        Check.due("cut saw", shop.cut(1, 'm', 1), 26);
+        Check.due("set", shop.set(1, 3), 0);
+        Check.due("harden saw", shop.harden(1, 850, 'w'), 58);
+        Check.due("temper", shop.temper(1, 100), 54);
+        Check.due("straighten", shop.straighten(1, 2), 2);
+        Check.due("strokes", shop.strokes(1, 20, 1), 104);
+        Check.due("brush", shop.brush(1), 104);
+        Check.due("soften", shop.soften(1), 54);
+        Check.due("grind", shop.grind(1), 44);
     }
 }

@@ -4,13 +4,12 @@ import java.lang.reflect.Method;
 import java.lang.reflect.Modifier;
 import java.nio.file.Files;
 import java.nio.file.Path;
-import java.util.List;
 import java.util.Set;
 import java.util.TreeSet;
 import java.util.regex.Matcher;
 import java.util.regex.Pattern;
 
-/** The public face as the document writes it, and the rules of LANGUAGE.md that can be seen from outside or by a word. */
+/** The public face as the document writes it (rule 1 of LANGUAGE.md). */
 public final class FaceTest {
     private static final Pattern METHOD = Pattern.compile("public (\\w+) (\\w+)\\((.*?)\\)(?: throws (.*?))?;");
 
@@ -22,7 +21,7 @@ public final class FaceTest {
         Check.due("methods in the document", due.size(), 35);
         Check.due("the methods", String.join("\n", written()), String.join("\n", due));
         oneConstructorAndNothingElse();
-        wordsThatAreRuledOut();
+        sectionsOfTheInterface();
         Check.end();
     }
 
@@ -88,18 +87,27 @@ public final class FaceTest {
         }
     }
 
-    private static void wordsThatAreRuledOut() throws Exception {
+    /** "Ahead of the calls .. the interface says: ---- ..", for each of its four parts, in the order of the document. */
+    private static void sectionsOfTheInterface() throws Exception {
+        String text = Files.readString(Path.of("../shared/DOC.md"));
         String source = Files.readString(Path.of("src/main/java/Teethrow.java"));
-        List<String> words = List.of("->", "::", "Exact", "catch", "try ", "finally", "synchronized", "assert ",
-                "package ", "System.out", "System.nano", "System.current", "Random", "Thread", "getMessage",
-                "NaN", "equals(", "hashCode", "toString", "import java.util.Arrays");
-        for (String word : words) {
-            Check.due("the source holds " + word, source.contains(word), false);
-        }
-        for (int i = 0; i < source.length(); i++) {
-            if (source.charAt(i) > 126) {
-                Check.due("sign at " + i, source.charAt(i), 126);
+        Matcher part = Pattern.compile("Ahead of the calls (.*?) the interface says: (---- .*)\\.\n").matcher(text);
+        int at = 0;
+        int calls = 0;
+        while (part.find()) {
+            int head = source.indexOf("// " + part.group(2) + "\n");
+            Check.due(part.group(2) + " comes next", head > at, true);
+            at = head;
+            Matcher name = Pattern.compile("`(\\w+)`").matcher(part.group(1));
+            while (name.find()) {
+                Matcher call = Pattern.compile("public \\w+ " + name.group(1) + "\\(").matcher(source);
+                Check.due(name.group(1) + " stands there", call.find(at), true);
+                boolean next = source.substring(at, call.start()).indexOf("\n    // ----") < 0;
+                Check.due(name.group(1) + " comes next", next, true);
+                at = call.start();
+                calls++;
             }
         }
+        Check.due("calls behind the heads", calls, 35);
     }
 }
