@@ -29,10 +29,10 @@ public final class Teethrow {
     private static final long Z_FACTOR = 48271L;
     private static final long Z_MODULUS = 2147483647L;
 
+    private static final int SOFTEST_METAL = 1;
     private static final int MOST_METAL = 70;
     private static final int MOST_STROKES = 40;
     private static final int WEAR_OF_ONE_HEIGHT = 100;
-    private static final int SOUNDING_METAL = 1;
 
     private static final int MOST_ORDERED = 8;
     private static final int GOOD_HARDNESS = 50;
@@ -208,7 +208,7 @@ public final class Teethrow {
     public int strokes(int tool, int metal, int strokes)
             throws IndexOutOfBoundsException, IllegalArgumentException, UnsupportedOperationException {
         Tool it = needTool(tool);
-        needWithin(metal, 1, MOST_METAL);
+        needWithin(metal, SOFTEST_METAL, MOST_METAL);
         needWithin(strokes, 1, MOST_STROKES);
         needHard(it);
         return it.bite(metal, strokes);
@@ -359,15 +359,15 @@ public final class Teethrow {
         // The set of a saw may have been taken back under full gullets; what is in them is too much then.
         return it.row.placesAreDue(it.length)
                 && it.row.highest() <= it.row.depth
-                && it.chips <= it.holds() + it.row.depth
+                && it.chips <= it.holds() + it.oneMoreBite()
                 && (it.state != 'h' || strokesOnCopyAsDue(it));
     }
 
     private boolean strokesOnCopyAsDue(Tool it) {
         int room = it.holds() - it.chips;
         copy.become(it.row);
-        int bitten = copy.stroke(it.hardness, SOUNDING_METAL, room);
-        return bitten == it.row.biteAhead(biteOf(it.hardness, SOUNDING_METAL), room);
+        int bitten = copy.stroke(it.hardness, SOFTEST_METAL, room);
+        return bitten == it.row.biteAhead(biteOf(it.hardness, SOFTEST_METAL), room);
     }
 
     private Tool needTool(int tool) {
@@ -597,6 +597,8 @@ public final class Teethrow {
         /** Above 0 only in the warm: a tool that is cold can't be straightened either. */
         private int straighteningsLeft;
         private int chips;
+        /** The most that a tooth could bite as the chips fell in; without chips it tells nothing. */
+        private int biteOfChips;
         private int work;
         private int recuts;
 
@@ -632,14 +634,29 @@ public final class Teethrow {
 
         int bite(int metal, int strokes) {
             cool();
+            int most = greatestBite();
+            int earlier = chips > 0 ? biteOfChips : 0;
             int bitten = 0;
             for (int i = 0; i < strokes; i++) {
                 int now = row.stroke(hardness, metal, holds() - chips);
                 chips += now;
                 bitten += now;
             }
+            if (bitten > 0) {
+                biteOfChips = Math.max(earlier, most);
+            }
             work += bitten;
             return bitten;
+        }
+
+        /** The most that a tooth bites by now: a bite goes up to the height, but is not the height. */
+        int greatestBite() {
+            return state == 'h' ? Math.min(row.highest(), biteOf(hardness, SOFTEST_METAL)) : 0;
+        }
+
+        /** What fell in stays sound behind tempering, softening and wear, by which a tool bites less. */
+        int oneMoreBite() {
+            return Math.max(biteOfChips, greatestBite());
         }
 
         int groundThickness() {

@@ -30,6 +30,7 @@ final class Plain {
         private boolean warm;
         private int straightened;
         private int chips;
+        private int greatestOfChips;
         private int work;
         private int recuts;
         private boolean gone;
@@ -42,6 +43,23 @@ final class Plain {
         private int gullets() {
             int hold = depth() * teeth.size();
             return shape == 's' ? hold + set * teeth.size() : hold;
+        }
+
+        /** The greatest bite of any tooth, on the softest metal that there is. */
+        private int greatestBite() {
+            int greatest = 0;
+            for (Tooth tooth : teeth) {
+                greatest = Math.max(greatest, state == 'h' ? bite(tooth, 1) : 0);
+            }
+            return greatest;
+        }
+
+        private int bite(Tooth tooth, int metal) {
+            if (hardness <= metal) {
+                return 0;
+            }
+            int bite = 1 + (hardness - metal) / 10;
+            return bite > tooth.height ? tooth.height : bite;
         }
     }
 
@@ -268,10 +286,11 @@ final class Plain {
     }
 
     private static void stroke(Made it, Tooth tooth, int metal) {
-        if (it.hardness > metal) {
-            int bite = 1 + (it.hardness - metal) / 10;
-            it.chips += bite > tooth.height ? tooth.height : bite;
+        int bite = it.bite(tooth, metal);
+        if (bite > 0) {
+            it.greatestOfChips = Math.max(it.chips == 0 ? 0 : it.greatestOfChips, it.greatestBite());
         }
+        it.chips += bite;
         tooth.wear += metal;
         while (tooth.wear >= 100) {
             tooth.wear -= 100;
@@ -417,13 +436,22 @@ final class Plain {
         return sum * 31 + z;
     }
 
-    /** Only what is in the gullets can ever be too much, by a set that is taken back. */
+    /**
+     * Only what is in the gullets can ever be too much, by a set that is taken back: by more than the greatest bite
+     * that the tool has now, and had at any bite that is in its gullets.
+     */
     boolean isSound() {
         for (Made it : tools) {
-            if (!it.gone && it.chips > it.gullets() + (it.teeth.isEmpty() ? 0 : it.depth())) {
+            int bite = Math.max(it.greatestOfChips, it.greatestBite());
+            if (!it.gone && it.chips > 0 && it.chips > it.gullets() + bite) {
                 return false;
             }
         }
         return true;
+    }
+
+    /** How much more is in the gullets than they hold. */
+    int beyond(int tool) {
+        return tool(tool).chips - tool(tool).gullets();
     }
 }

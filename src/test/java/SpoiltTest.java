@@ -22,6 +22,7 @@ public final class SpoiltTest {
         places();
         heights();
         chips();
+        oneChip();
         toothTooFewOrTooMany();
         Check.end();
     }
@@ -179,14 +180,52 @@ public final class SpoiltTest {
         Check.due("isSound, soft", withTooth(Shops.softFile(), "heights", 3, 10).isSound(), false);
     }
 
+    /** Each hardness and each depth: one more bite is that on the softest metal, up to the highest tooth. */
     private static void chips() throws Exception {
-        Check.due("one more bite", withTool(Shops.hardFile(), "chips", 81 + 9).isSound(), true);
-        Check.due("more than that", withTool(Shops.hardFile(), "chips", 81 + 10).isSound(), false);
-        Check.due("more than that, soft", withTool(Shops.softFile(), "chips", 81 + 10).isSound(), false);
+        for (char shape : new char[] {'f', 'h', 's'}) {
+            for (char name : new char[] {'b', 's', 'm'}) {
+                for (int hardness = 1; hardness <= 66; hardness++) {
+                    Teethrow x = withTool(Shops.cut(shape, name, 1), "hardness", hardness);
+                    field(tool(x), "state").setChar(tool(x), 'h');
+                    int bite = hardness > 1 ? 1 + (hardness - 1) / 10 : 0;
+                    oneMoreBite(x, Math.min(bite, x.height(0, 0)), "hardness " + hardness + " of " + shape + name);
+                }
+            }
+        }
+        oneMoreBite(Shops.softFile(), 0, "a soft one that never bit");
+        oneMoreBite(Shops.crackedTool('s'), 0, "a cracked one that never bit");
         Teethrow saw = Shops.hardSaw();
         saw.set(0, 9);
-        Check.due("of a saw that is set", withTool(saw, "chips", 162 + 9).isSound(), true);
-        Check.due("more than that, too", withTool(saw, "chips", 162 + 10).isSound(), false);
+        oneMoreBite(saw, 6, "a saw that is set");
+        for (int tooth = 0; tooth < 9; tooth++) {
+            oneMoreBite(lowTeeth(tooth, 3), 3, "the tooth " + tooth + " alone is 3 high");
+        }
+        oneMoreBite(lowTeeth(4, 0), 0, "no tooth is higher than 0");
+    }
+
+    /** A bite of 1 alone, of a tooth that could bite 6 then, and less by the time of the next bite. */
+    private static void oneChip() throws Exception {
+        Teethrow x = lowTeeth(4, 9);
+        Check.due("a bite of 1", x.strokes(0, 57, 1), 1);
+        x.temper(0, 400);
+        Check.due("another", x.strokes(0, 41, 1), 1);
+        x.soften(0);
+        oneMoreBite(x, 6, "by bites of 1");
+    }
+
+    private static Teethrow lowTeeth(int tooth, int height) throws Exception {
+        Teethrow x = Shops.hardFile();
+        for (int i = 0; i < 9; i++) {
+            withTooth(x, "heights", i, i == tooth ? height : 0);
+        }
+        return x;
+    }
+
+    private static void oneMoreBite(Teethrow x, int bite, String what) throws Exception {
+        for (int more = -1; more <= 10; more++) {
+            withTool(x, "chips", x.gullets(0) + more);
+            Check.due(more + " more than they hold, " + what, x.isSound(), more <= bite);
+        }
     }
 
     private static void toothTooFewOrTooMany() throws Exception {
