@@ -51,7 +51,7 @@ public final class OneMoreBiteTest {
         Check.due("isSound, brushed", x.isSound(), true);
     }
 
-    /** A saw of the depth 9 with 6 to 9 teeth by its spread; by two bites of 5 each it is one set beyond. */
+    /** A saw of the depth 9, filled at the set 1 by two bites of 5 each; set back, as much is beyond as it has teeth. */
     private static Teethrow beyondByTeeth(int teeth, int hardness) {
         Teethrow x = sawOf(50, 'b', 9 - teeth, hardness);
         Check.due("teeth", x.teeth(0), teeth);
